@@ -495,6 +495,9 @@ public final class PolyBench {
 
     /** NUMBERS: rests of one prime. */
     private static final class Rests {
+        // The greatest PRIME, 7681, has 13 bits.
+        static final int BITS = 13;
+
         private final int prime;
 
         Rests(int which) {
@@ -756,7 +759,7 @@ public final class PolyBench {
         int seekRoots(Row a) {
             result.wipe();
             result.set(0, 1);
-            for (int bit = 12; bit >= 0; bit--) {
+            for (int bit = Rests.BITS - 1; bit >= 0; bit--) {
                 result.copy(multiplied(result, result));
                 if ((rests.prime() >> bit & 1) == 1) {
                     result.copy(multiplied(result, lineAt(0)));
@@ -1186,17 +1189,16 @@ public final class PolyBench {
             }
         }
 
-        /** Takes a token that stays open till open is lessened, if it stands there and may. */
+        /**
+         * Takes a token that stays open till open is lessened. Where it may not open it is left standing:
+         * nothing else begins with it, so it is the FAULT.
+         */
         private boolean opened(int token) {
-            if (!stands(token)) {
+            if (open >= MOST_OPEN || !stands(token)) {
                 return false;
             }
-            if (open >= MOST_OPEN) {
-                fail();
-                return false;
-            }
-            open++;
             next++;
+            open++;
             return true;
         }
 

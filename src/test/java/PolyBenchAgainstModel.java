@@ -288,6 +288,7 @@ public final class PolyBenchAgainstModel {
                 }
                 case 10:
                     faults();
+                    fewValues();
                     break;
                 case 11:
                     rows();
@@ -327,6 +328,22 @@ public final class PolyBenchAgainstModel {
                 int to = draw(8);
                 same("right(" + to + ", " + other + ")", bench.right(to, other), model.right(to, other));
                 samePoly(to);
+            }
+        }
+
+        /** Few PLACES with few VALUES, where much agrees by chance. */
+        private void fewValues() {
+            same("leave()", bench.leave(), model.leave());
+            int n = 1 + draw(8);
+            int unlike = 1 + draw(4);
+            for (int i = 0; i < n; i++) {
+                same("place", bench.place(7 * i + 1), model.place(7 * i + 1));
+                int v = draw(unlike);
+                same("see", bench.see(i, v), model.see(i, v));
+            }
+            for (int k = 1; k <= n; k++) {
+                same("right(0, " + k + ") of few", bench.right(0, k), model.right(0, k));
+                samePoly(0);
             }
         }
 

@@ -295,6 +295,8 @@ public final class PolyBenchPromises {
         due("TWICE of two that are one by NUMBERS", x.times(4, 0, 3, 5), 32);
         make(3, 1, 2, 4);
         due("TWICE of two of one LENGTH", x.times(4, 0, 3, 5), 44);
+        make(3, 2, 2, 3);
+        due("TWICE of two that differ in c(0)", x.times(4, 0, 3, 5), 44);
         long counted = x.counted();
         make(5, 0);
         for (int way = 0; way < 6; way++) {
@@ -616,6 +618,12 @@ public final class PolyBenchPromises {
         fault("plain n;split n;turn n;;", 23);
         fault("plain n;split n;turn n; n", 24);
         fault("plain n;split n;turn n; plain", 24);
+        fault("plain n;split n;turn n; ?", 24);
+        fault("plain n;split n;turn n;x", 23);
+        fault("plain n;split n;turn n;12345", 23);
+        fault("plain n;split n;or n;", 16);
+        fault("plain n turn m;", 8);
+        fault("plain n split m;", 8);
         fault("plain n;split n;plain n;", 16);
         fault("plain n m;", 8);
         fault("plain n 1;", 8);
@@ -723,9 +731,13 @@ public final class PolyBenchPromises {
         due("THE RULE", x.count(5), 1);
         due("force", x.force(0), 1);
         due("says", x.says(0, 0, 0), 0);
-        write("plain ?");
+        write("plain n*n;split m ?");
         x.text();
         due("force of a TEXT with a FAULT", x.force(3), -2);
+        write("plain 7;split 8;turn 9;");
+        due("text behind one with a FAULT", x.text(), 3);
+        due("force", x.force(3), 0);
+        due("says", x.says(0, 0, 0), 7);
     }
 
     /** What an E is for LENGTHS 3 and 2 and a WAY 0 of KIND 0 and CUT 7. */
@@ -1605,10 +1617,15 @@ public final class PolyBenchPromises {
             due("lay", x.lay(0, sort, sort, 0, 3), 0);
             is(0);
             due("none behind", x.cell(sort, 3, 5), -12);
+            due("cell", x.cell(sort, 0, 5), 1);
             due("cell", x.cell(sort, 2, 5), 1);
             due("sheet again", x.sheet(sort, sort, 40), 1);
             due("lay", x.lay(0, sort, sort, 0, 32), 0);
             due("lay", x.lay(0, sort, sort, 8, 32), 0);
+            due("cell", x.cell(sort, 0, 5), 1);
+            due("sheet of another sort", x.sheet(sort, (sort + 1) % 3, 4), 1);
+            due("lay", x.lay(0, sort, (sort + 1) % 3, 0, 4), 0);
+            due("lay", x.lay(0, sort, sort, 0, 4), -13);
         }
         due("sheet of none", x.sheet(3, 1, 0), 1);
         due("cell", x.cell(3, 0, 5), -12);
