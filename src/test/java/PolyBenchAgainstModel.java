@@ -8,7 +8,9 @@ import java.util.List;
  * The draws come from a fixed row of numbers, so every run is the same each time.
  */
 public final class PolyBenchAgainstModel {
-    private static final int RUNS = 1600;
+    private static final int RUNS = 8000;
+    // An object is used for 512 calls; the dearest step of a run makes some 150.
+    private static final int CALLS = 512, STEP = 150;
     private static int wrong = 0;
 
     public static void main(String[] args) {
@@ -28,6 +30,7 @@ public final class PolyBenchAgainstModel {
         private final Model model;
         private final int theme;
         private long seed;
+        private int calls;
 
         Run(int number) {
             this.number = number;
@@ -44,15 +47,19 @@ public final class PolyBenchAgainstModel {
         }
 
         void go() {
-            for (int call = 0; call < 170 && wrong < 20; call++) {
+            for (int call = 0; calls <= CALLS - STEP && wrong < 20; call++) {
                 one(call);
             }
-            for (int poly = 0; poly < 8; poly++) {
+            for (int poly = 0; poly < 8 && calls <= CALLS - 34; poly++) {
                 samePoly(poly);
+            }
+            if (calls > CALLS) {
+                throw new IllegalStateException("a run of " + calls + " calls");
             }
         }
 
         private void same(String call, long got, long want) {
+            calls++;
             if (got != want) {
                 wrong++;
                 System.out.println("run " + number + ": " + call + " answered " + got + ", the model " + want);
@@ -60,9 +67,12 @@ public final class PolyBenchAgainstModel {
         }
 
         private void samePoly(int poly) {
-            for (int i = -1; i < 32; i++) {
+            int length = model.at(poly, -1);
+            for (int i = -1; i < length; i++) {
                 same("at(" + poly + ", " + i + ")", bench.at(poly, i), model.at(poly, i));
             }
+            int beyond = length < 0 ? 0 : length + draw(33 - length);
+            same("at(" + poly + ", " + beyond + ")", bench.at(poly, beyond), model.at(poly, beyond));
         }
 
         private int poly() {
@@ -154,7 +164,8 @@ public final class PolyBenchAgainstModel {
                     row[i] = Math.floorMod((i > 0 ? row[i - 1] : 0) - x * row[i], (long) model.p);
                 }
             }
-            for (int i = 0; i < 32; i++) {
+            same("clear(" + to + ")", bench.clear(to), model.clear(to));
+            for (int i = 0; i <= many; i++) {
                 same("put", bench.put(to, i, (int) row[i]), model.put(to, i, (int) row[i]));
             }
         }
@@ -243,7 +254,7 @@ public final class PolyBenchAgainstModel {
         private void atPlaces() {
             int to = poly();
             int i = draw(18) - 1;
-            switch (draw(14)) {
+            switch (draw(16)) {
                 case 0:
                     if (draw(4) == 0) {
                         same("leave()", bench.leave(), model.leave());
@@ -288,6 +299,8 @@ public final class PolyBenchAgainstModel {
                 }
                 case 10:
                     faults();
+                    break;
+                case 12:
                     fewValues();
                     break;
                 case 11:
@@ -342,8 +355,11 @@ public final class PolyBenchAgainstModel {
                 same("see", bench.see(i, v), model.see(i, v));
             }
             for (int k = 1; k <= n; k++) {
-                same("right(0, " + k + ") of few", bench.right(0, k), model.right(0, k));
-                samePoly(0);
+                int want = model.right(0, k);
+                same("right(0, " + k + ") of few", bench.right(0, k), want);
+                if (want >= 0) {
+                    samePoly(0);
+                }
             }
         }
 

@@ -21,6 +21,9 @@ public final class PolyBenchHolds {
             }
             for (run = 0; run < 4; run++) {
                 longest(run);
+                wholeTapes(run);
+            }
+            for (run = 0; run < 2000 && wrong < 20; run++) {
                 refusalsChangeNothing(run);
             }
         } catch (RuntimeException | Error thrown) {
@@ -68,7 +71,8 @@ public final class PolyBenchHolds {
             int e = number();
             long first = call(one, method, a, b, c, d, e);
             long second = call(two, method, a, b, c, d, e);
-            if (first != second) {
+            // What later calls answer is free, but they hold, too.
+            if (call < 512 && first != second) {
                 wrong++;
                 System.out.println("run " + run + ": method " + method + " answered " + first + " and " + second);
             }
@@ -116,7 +120,7 @@ public final class PolyBenchHolds {
         }
     }
 
-    /** The dearest calls on the longest POLYS, and TEXTS that fill THE TAPE. */
+    /** The dearest calls on the longest POLYS. */
     private static void longest(int prime) {
         PolyBench x = new PolyBench(prime);
         for (int i = 0; i < 32; i++) {
@@ -128,7 +132,7 @@ public final class PolyBenchHolds {
             x.place(i * 3);
             x.see(i, i * i * i);
         }
-        for (int k = 0; k < 60; k++) {
+        for (int k = 0; k < 48; k++) {
             x.root(k % 3, k % 5);
             x.gcd(3, k % 3, 1);
             x.cofactor(4, k % 3, 2);
@@ -138,8 +142,13 @@ public final class PolyBenchHolds {
             x.compose(7, 0, 1);
             x.move(7, 1, k);
         }
+    }
+
+    /** TEXTS with a FAULT that fill THE TAPE. */
+    private static void wholeTapes(int prime) {
         String[] bits = {"(", "-", "not ", "n+", "n*", "n or ", "n and ", "n<", ";", "plain ", "9", "a", " "};
         for (String bit : bits) {
+            PolyBench x = new PolyBench(prime);
             StringBuilder words = new StringBuilder("plain ");
             while (words.length() < 160) {
                 words.append(bit);
@@ -154,27 +163,29 @@ public final class PolyBenchHolds {
         }
     }
 
-    /** After each call that was refused all that can be asked is as it was. */
-    private static void refusalsChangeNothing(int prime) {
-        PolyBench x = new PolyBench(prime);
+    /** After each call that was refused what can be asked is as it was. */
+    private static void refusalsChangeNothing(int run) {
+        PolyBench x = new PolyBench(run);
         for (int i = 0; i < 20; i++) {
             x.put(0, i, i + 1);
             x.put(1, i, 3 * i + 2);
-            x.put(2, i % 4, 1);
+        }
+        for (int poly = 2; poly < 8; poly++) {
+            x.put(poly, poly % 3, poly);
         }
         x.way(3, 2);
         x.way(0, 2);
         for (int i = 0; i < 16; i++) {
-            x.place(i % 9);
+            x.place(i % 9 + run % 2 * i);
             x.see(i, i * i);
         }
         x.sheet(0, 0, 5);
         x.sheet(1, 1, 5);
         x.cell(1, 2, 700);
-        for (int i = 0; i < 159; i++) {
-            x.feed(1, 'n');
+        for (int i = 0; i < 19; i++) {
+            x.feed(8, -1);
         }
-        for (int k = 0; k < 6000; k++) {
+        for (int k = 0; k < 4; k++) {
             String before = all(x);
             int method = draw(36);
             int a = number();
@@ -182,10 +193,10 @@ public final class PolyBenchHolds {
             int c = number();
             int d = number();
             int e = number();
+            // A TEXT with a FAULT empties THE TAPE.
             boolean changes = method == 10 || method == 21;
             long answer = changes ? 0 : call(x, method, a, b, c, d, e);
-            boolean refused = answer < 0;
-            if (refused && !before.equals(all(x))) {
+            if (answer < 0 && !before.equals(all(x))) {
                 wrong++;
                 System.out.println("a refused call changed something: method " + method + " answered " + answer);
             }
@@ -195,12 +206,12 @@ public final class PolyBenchHolds {
     private static String all(PolyBench x) {
         StringBuilder all = new StringBuilder();
         for (int poly = 0; poly < 8; poly++) {
-            for (int i = -1; i < 32; i++) {
+            for (int i : new int[] {-1, 0, 5}) {
                 all.append(x.at(poly, i)).append(' ');
             }
         }
         for (int i = 0; i < 16; i++) {
-            all.append(x.told(i, 0)).append(' ').append(x.told(i, 1)).append(' ');
+            all.append(x.told(i, i % 2)).append(' ');
         }
         for (int what = 0; what < 6; what++) {
             all.append(x.count(what)).append(' ');

@@ -1,4 +1,7 @@
-/** Each promise of the document by answers that were worked out by hand: what is usual, the edges, what is wrong. */
+/**
+ * Each promise of the document by answers that were worked out by hand: what is usual, the edges, what is wrong.
+ * An object is used for at most 512 calls, so there are many.
+ */
 public final class PolyBenchPromises {
     private static final int LEAST = Integer.MIN_VALUE, MOST = Integer.MAX_VALUE;
     private static final int PLAIN = 0, SPLIT = 1, THIRDS = 2, TURN = 3, MIXED = 4, TWICE = 5;
@@ -6,6 +9,7 @@ public final class PolyBenchPromises {
 
     private static int wrong = 0;
     private static int promise = 0;
+    private static int prime = 0;
     private static PolyBench x;
 
     public static void main(String[] args) {
@@ -55,9 +59,10 @@ public final class PolyBenchPromises {
 
     // ---- helpers
 
-    private static void begin(int number, int prime) {
+    private static void begin(int number, int which) {
         promise = number;
-        x = new PolyBench(prime);
+        x = new PolyBench(which);
+        prime = new int[] {97, 193, 257, 7681}[Math.floorMod(which, 4)];
     }
 
     private static void due(String call, long got, long want) {
@@ -86,17 +91,26 @@ public final class PolyBenchPromises {
     /** A POLY has these NUMBERS, and 0 from there on. */
     private static void is(int poly, int... numbers) {
         int length = 0;
-        for (int i = 0; i < 32; i++) {
-            int want = i < numbers.length ? Math.floorMod(numbers[i], x.count(0)) : 0;
+        for (int i = 0; i < numbers.length; i++) {
+            int want = Math.floorMod(numbers[i], prime);
             due("at(" + poly + ", " + i + ")", x.at(poly, i), want);
             length = want != 0 ? i + 1 : length;
         }
         due("at(" + poly + ", -1)", x.at(poly, -1), length);
+        if (numbers.length < 32) {
+            due("at(" + poly + ", " + numbers.length + ")", x.at(poly, numbers.length), 0);
+            due("at(" + poly + ", 31)", x.at(poly, 31), 0);
+        }
     }
 
     private static void write(String words) {
-        for (int i = 0; i < words.length(); i++) {
-            x.feed(1, words.charAt(i));
+        for (int i = 0; i < words.length(); i += 8) {
+            int n = Math.min(8, words.length() - i);
+            long bytes = 0;
+            for (int j = 0; j < n; j++) {
+                bytes |= (long) words.charAt(i + j) << 8 * j;
+            }
+            x.feed(n, bytes);
         }
     }
 
@@ -309,10 +323,11 @@ public final class PolyBenchPromises {
         }
         due("counted()", x.counted(), counted);
         timesFull();
-        timesBad();
     }
 
     private static void timesFull() {
+        begin(7, 0);
+        allWays(1);
         ones(0, 17);
         ones(1, 16);
         make(2, 8);
@@ -326,15 +341,16 @@ public final class PolyBenchPromises {
         }
         long counted = x.counted();
         make(2, 8);
+        ones(3, 32);
+        ones(4, 2);
         for (int way = 0; way < 6; way++) {
             due("times of 33", x.times(2, 0, 0, way), -4);
-            ones(3, 32);
-            ones(4, 2);
             due("times of 33", x.times(2, 3, 4, way), -4);
             due("times of 63", x.times(2, 3, 3, way), -4);
         }
         is(2, 8);
         due("counted()", x.counted(), counted);
+        timesBad();
     }
 
     private static void timesBad() {
@@ -1456,8 +1472,9 @@ public final class PolyBenchPromises {
             x.look(0);
             for (int wrongs = 0; wrongs <= (16 - k) / 2; wrongs++) {
                 due("right of 16 for " + k, x.right(1, k), wrongs);
-                for (int i = 0; i < 32; i++) {
-                    due("at", x.at(1, i), x.at(0, i));
+                due("LENGTH", x.at(1, -1), k);
+                for (int i = 0; i < k; i++) {
+                    due("at", x.at(1, i), i * i + 3);
                 }
                 int place = wrongs * 7 % 16;
                 x.see(place, x.told(place, 1) + 1 + wrongs);
