@@ -8,6 +8,8 @@ public final class PolyBenchHolds {
         Integer.MAX_VALUE, Integer.MIN_VALUE, Integer.MAX_VALUE - 1, Integer.MIN_VALUE + 1, 1 << 16, -(1 << 16), -2, -100
     };
     private static final long MINUTES = 5;
+    // What crowd() calls at most.
+    private static final int CROWDED = 200;
 
     private static long seed = 1;
     private static int wrong = 0;
@@ -62,7 +64,11 @@ public final class PolyBenchHolds {
     private static void hostile(int run) {
         PolyBench one = new PolyBench(HARD[run % HARD.length]);
         PolyBench two = new PolyBench(HARD[run % HARD.length]);
-        for (int call = 0; call < 700; call++) {
+        if (run % 2 == 1) {
+            crowd(one);
+            crowd(two);
+        }
+        for (int call = run % 2 * CROWDED; call < 700; call++) {
             int method = draw(36);
             int a = number();
             int b = number();
@@ -76,6 +82,46 @@ public final class PolyBenchHolds {
                 wrong++;
                 System.out.println("run " + run + ": method " + method + " answered " + first + " and " + second);
             }
+        }
+    }
+
+    /** A bench that is full of everything: POLYS of 32, 8 WAYS, 6 TEXTS, 16 PLACES, SHEETS of 40, a long TAPE. */
+    private static void crowd(PolyBench x) {
+        String[] texts = {"plain n*m;split-size*cut;turn kind<same;", "plain 9999*9999*9999;split not n;turn-9999;",
+            "plain(((((n)))));split not not not 1;turn 0;", "plain n or m and size<cut;split m=n;turn kind;",
+            "plain 2048*1024*1024;split 0-1;turn-(n-m);"};
+        for (String text : texts) {
+            for (int i = 0; i < text.length(); i += 8) {
+                int n = Math.min(8, text.length() - i);
+                long bytes = 0;
+                for (int j = n - 1; j >= 0; j--) {
+                    bytes = bytes << 8 | text.charAt(i + j);
+                }
+                x.feed(n, bytes);
+            }
+            x.force(x.text());
+        }
+        for (int i = 0; i < 32; i++) {
+            x.put(0, i, i * i + 1);
+            x.put(1, i, -7 * i - 3);
+        }
+        x.put(2, 31, 1);
+        x.put(3, 16, -1);
+        x.sum(4, 0, 1, 1);
+        for (int k = 0; k < 8; k++) {
+            x.way(k % 6, 2 * k + 1);
+        }
+        for (int i = 0; i < 16; i++) {
+            x.place(i / 2 * 3);
+            x.see(i, i * i * i - 5);
+        }
+        for (int sheet = 0; sheet < 3; sheet++) {
+            x.sheet(sheet, sheet, 40);
+            x.cell(sheet, 39, Integer.MIN_VALUE);
+            x.cell(sheet, 0, Integer.MAX_VALUE);
+        }
+        for (int k = 0; k < 19; k++) {
+            x.feed(8, 0x206E2B6E2B6E2B6EL * (k % 2));
         }
     }
 
