@@ -804,6 +804,11 @@ public final class PolyBenchEdges {
             anew();
             write("plain n" + (char) one + "m;split 1;turn 1;");
             due("byte " + one + " between two NAMES", x.text(), between < 0 ? 1 : -100 - between);
+            int inside = faultBetween(one) == 6 ? 7 : faultBetween(one);
+            anew();
+            write("plain 1" + (char) one + "2;split 1;turn 1;");
+            boolean digit = one >= '0' && one <= '9';
+            due("byte " + one + " between two digits", x.text(), digit || inside < 0 ? 1 : -100 - inside);
             boolean blank = one == ' ' || one == '\n';
             anew();
             write((char) one + "plain n;split 1;turn 1;");
@@ -813,7 +818,6 @@ public final class PolyBenchEdges {
             due("byte " + one + " behind", x.text(), blank ? 1 : -123);
             anew();
             write("plain n;split 1;turn 1+" + (char) one + ";");
-            boolean digit = one >= '0' && one <= '9';
             int name = one == 'n' || one == 'm' ? 1 : 0;
             boolean opens = one == '(' || one == '-' || blank;
             due("byte " + one + " for a ONE", x.text(), digit || name == 1 ? 1 : opens ? -124 : -123);
@@ -1819,6 +1823,7 @@ public final class PolyBenchEdges {
 
     private static void promises() {
         ofOneNumber();
+        ofProducts();
         ofTape();
         ofRules();
         ofPlaces();
@@ -1879,6 +1884,71 @@ public final class PolyBenchEdges {
         is(2, 1, 2);
         due("a and 0", x.sum(2, 0, 5, 7), 2);
         is(2, 5, 10);
+    }
+
+    private static void ofProducts() {
+        edge("Promise 6", "A WAY: its number. BAD; FULL");
+        for (int way = 0; way < 8; way++) {
+            due("way of KIND 6", x.way(6, 1), BAD);
+            due("way of CUT 17", x.way(0, 17), BAD);
+            due("way", x.way(5, 16), way);
+        }
+        due("the 9th", x.way(5, 16), FULL);
+        due("the 9th, of CUT 0", x.way(5, 0), BAD);
+        due("WAYS", x.count(1), 8);
+        edge("Promise 7", "A product by a WAY: its COUNT. BAD; FULL");
+        everyKind(16);
+        make(0, 5);
+        for (int way = -1; way <= 6; way++) {
+            boolean is = way >= 0 && way < 6;
+            due("times of two NUMBERS by WAY " + way, x.times(1, 0, 0, way), is ? 1 : BAD);
+        }
+        is(1, 25);
+        edge("Promise 8", "COUNT that it would have. BAD; FULL (for TURN, TWICE alone)");
+        everyKind(16);
+        single(0, 16, 1);
+        single(1, 31, 1);
+        int[] of33 = {289, 226, 180, FULL, 226, FULL};
+        int[] of63 = {1024, 768, 605, FULL, 768, FULL};
+        for (int way = 0; way < 6; way++) {
+            due("cost of 17, 17 by " + way, x.cost(0, 0, way), of33[way]);
+            due("cost of 32, 32 by " + way, x.cost(1, 1, way), of63[way]);
+            due("times of 17, 17 by " + way, x.times(2, 0, 0, way), FULL);
+            due("times of 32, 32 by " + way, x.times(2, 1, 1, way), FULL);
+        }
+        is(2);
+        ofPlans();
+    }
+
+    private static void ofPlans() {
+        edge("Promise 9", "THE PLAN. NONE: there is none");
+        single(0, 16, 1);
+        due("plan without WAYS", x.plan(0, 0), -1);
+        due("plan without WAYS, of 0", x.plan(7, 7), -1);
+        x.way(TURN, 1);
+        due("plan of 33 by TURN alone", x.plan(0, 0), -1);
+        due("plan of 17 by TURN alone", x.plan(0, 7), 0);
+        x.way(TWICE, 1);
+        due("plan of 33 by TURN and TWICE", x.plan(0, 0), -1);
+        x.way(MIXED, 1);
+        due("plan of 33 by MIXED", x.plan(0, 0), 2);
+        edge("Promise 10", "A product by THE PLAN: the WAY. STATE: there is none; FULL");
+        single(0, 16, 1);
+        single(1, 15, 1);
+        due("planned without WAYS", x.planned(2, 0, 1), STATE);
+        x.way(TURN, 1);
+        due("planned of 33 by TURN alone", x.planned(2, 0, 0), STATE);
+        due("planned of 32 by TURN alone", x.planned(2, 0, 1), 0);
+        due("LENGTH", x.at(2, -1), 32);
+        due("COUNTED", x.counted(), 272);
+        x.way(SPLIT, 2);
+        due("planned of 33 by SPLIT", x.planned(2, 0, 0), FULL);
+        due("planned of 32 by SPLIT", x.planned(2, 0, 1), 1);
+        // S(17) of CUT 2: 17 is 9 and 8, 9 is 5 and 4, 5 is 3 and 2: 22, 12; 56; 36
+        due("COUNTED", x.counted(), 272 + 148);
+        due("planned of 0", x.planned(2, 7, 7), 1);
+        due("COUNTED", x.counted(), 272 + 148);
+        is(2);
     }
 
     private static void ofTape() {
@@ -1946,8 +2016,10 @@ public final class PolyBenchEdges {
             most.append("+1");
         }
         for (int k = 1; k <= 5; k++) {
-            write(most + ";");
-            due("text with a FAULT", x.text(), -260);
+            for (int times = 0; times < 2; times++) {
+                write(most + ";");
+                due("text with a FAULT", x.text(), -260);
+            }
             write("plain 7+n;split 8;?");
             due("text with a FAULT", x.text(), -118);
             write("plain 10+" + k + ";split 20+" + k + ";turn 30+" + k + ";");
